@@ -532,37 +532,33 @@ public final class LayerSlicer {
       }
     }
 
-    /** The cells of a row that the cut found last crosses to the left of. */
+    /** The cells of a row that have the cut found last to their left. */
     private int cellsRightOfCut(int y) {
       int centre = doubleCentre(y);
-      boolean firstAbove = 2 * ends[2] > centre * ends[0];
-      boolean secondAbove = 2 * ends[5] > centre * ends[3];
-      if (firstAbove == secondAbove) {
+      int first = 2 * ends[2] - centre * ends[0];
+      int second = 2 * ends[5] - centre * ends[3];
+      if (first > 0 == second > 0) {
         return 0;
       }
-      int low = firstAbove ? 3 : 0;
-      int high = 3 - low;
-      for (int x = 0; x < SIDE; x++) {
-        // What is right of the line in one cell is so in all cells behind it.
-        if (isLineLeftOf(low, high, doubleCentre(x), centre)) {
-          return WHOLE_ROW & WHOLE_ROW << x;
-        }
-      }
-      return 0;
+      return first > 0 ? cellsRightOfLine(3, 0, -second, first) : cellsRightOfLine(0, 3, -first, second);
     }
 
     /**
-     * Whether the line between the two ends passes left of a centre, told without a division: the ends'
-     * distances from the centre in x, each times the other end's distance in y, sum up to less than 0.
+     * The line meets the row at sum / whole, the mean of the ends' x, each weighed by the other end's distance
+     * from the row. Cell x has it to its left if 20 x + 9 is more than 2 * sum / whole, so the first such x is
+     * found by one division; it is 0 .. 12, as x is 0 .. 120 on the line.
      */
-    private boolean isLineLeftOf(int low, int high, int centreX, int centreY) {
-      long lowX = 2 * ends[low + 1] - centreX * ends[low];
-      long highX = 2 * ends[high + 1] - centreX * ends[high];
-      long down = centreY * ends[low] - 2 * ends[low + 2];
-      long up = 2 * ends[high + 2] - centreY * ends[high];
-      return lowX * up + highX * down < 0;
+    private int cellsRightOfLine(int low, int high, long down, long up) {
+      long sum = ends[low + 1] * up + ends[high + 1] * down;
+      long whole = ends[low] * up + ends[high] * down;
+      if (whole <= 0) {
+        return 0;
+      }
+      int first = (int) ((2 * sum + 11 * whole) / (20 * whole));
+      return WHOLE_ROW & WHOLE_ROW << first;
     }
 
+    /** Twice the centre is whole too. */
     private static int doubleCentre(int cell) {
       return 20 * cell + 9;
     }
