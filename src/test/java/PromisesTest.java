@@ -50,32 +50,16 @@ public final class PromisesTest {
     return x;
   }
 
-  /** A pillar of cells 1 .. 3 in layers 0 .. 3, on it in layer 4 a plate of cells 1 .. 9, all in rows 1 .. 3. */
   private static LayerSlicer table() {
-    LayerSlicer x = new LayerSlicer();
-    Check.box(x, Check.at(10, 10, 0), Check.at(40, 40, 40));
-    Check.box(x, Check.at(10, 10, 40), Check.at(100, 40, 60));
-    x.layers(11);
-    return x;
+    return Check.table();
   }
 
-  /** A disc: a middle corner and a rim, whose edges are open from each corner to the one before it. */
   private static int disc(LayerSlicer x, int rim, int z) {
-    int middle = x.corner(60, 60, z);
-    for (int i = 0; i < rim; i++) {
-      // A curve, so that no two neighbours are on one line with the middle.
-      x.corner(i, i * i / 4, z);
-    }
-    for (int i = 0; i < rim; i++) {
-      x.tri(middle, middle + 1 + (i + 1) % rim, middle + 1 + i);
-    }
-    return middle;
+    return Check.disc(x, rim, z);
   }
 
   private static void trianglesAre(LayerSlicer x, int t, int a, int b, int c) {
-    due("triangle(" + t + ", 0)", x.triangle(t, 0), a);
-    due("triangle(" + t + ", 1)", x.triangle(t, 1), b);
-    due("triangle(" + t + ", 2)", x.triangle(t, 2), c);
+    CHECK.triangleIs(x, t, a, b, c);
   }
 
   private static void newObject() {
@@ -643,16 +627,23 @@ public final class PromisesTest {
     due("play behind the end", x.play(1), 0);
   }
 
-  private static void laid() {
+  private static LayerSlicer printedBlock() {
     LayerSlicer x = block();
     x.emit();
     x.play(1000);
+    return x;
+  }
+
+  private static void laid() {
     for (int layer = 0; layer < 5; layer++) {
+      // An object for each layer, as it has 512 calls.
+      LayerSlicer printed = printedBlock();
       for (int i = 0; i < 144; i++) {
-        int kind = x.kind(layer, i % 12, i / 12);
-        due("laid on kind " + kind, x.laid(layer, i % 12, i / 12), kind >= 1 && kind <= 3 ? 1 : 0);
+        int kind = printed.kind(layer, i % 12, i / 12);
+        due("laid on kind " + kind, printed.laid(layer, i % 12, i / 12), kind >= 1 && kind <= 3 ? 1 : 0);
       }
     }
+    LayerSlicer x = printedBlock();
     int[][] outside = {{-1, 1, 1}, {5, 1, 1}, {24, 1, 1}, {0, -1, 2}, {0, 12, 1}, {0, 1, -1}, {0, 1, 12},
       {Integer.MAX_VALUE, 1, 1}, {0, Integer.MIN_VALUE, 1}};
     for (int[] o : outside) {
